@@ -95,11 +95,13 @@ public final class InsertMarks {
     }
 
     public int flush() {
-        int before = closedCount;
-        while (line.length > 0 && closedCount < MOST_PAGES) {
+        int openPages = MOST_PAGES - closedCount;
+        int flushed = 0;
+        while (flushed < openPages && line.length > 0) {
             closeNextPage();
+            flushed++;
         }
-        return closedCount - before;
+        return flushed;
     }
 
     public int cancel(int insert) {
