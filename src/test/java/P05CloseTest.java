@@ -13,6 +13,8 @@ public final class P05CloseTest {
         nothingFitsBesideOver();
         numbersByTheFirstPart();
         manyCutsOnEveryPage();
+        countsPartsNotInserts();
+        lessAndLessOpenPages();
         Check.end();
     }
 
@@ -208,5 +210,28 @@ public final class P05CloseTest {
         }
         Check.due("parts of all inserts", told, parts);
         Check.due("rest of the last", x.about(199, 0), 10000 - (400 - 24 * 4));
+    }
+
+    private static void countsPartsNotInserts() {
+        InsertMarks x = new InsertMarks(10);
+        x.cls(5, 1, true);
+        x.cls(5, 1, true);
+        x.insert(0, 6, 0);
+        x.insert(0, 1, 0);
+        x.insert(1, 6, 0);
+        Check.due("two parts, none of them whole", x.close(), 2);
+        Check.due("two rests and a whole one", x.close(), 3);
+        Check.due("an empty page", x.close(), 0);
+    }
+
+    private static void lessAndLessOpenPages() {
+        InsertMarks x = new InsertMarks(10);
+        x.cls(-1, 0, true);
+        for (int page = 0; page < 40; page++) {
+            Check.due("mark before close of page " + page, x.mark(0, page, page), page + 1);
+            Check.due("close() of page " + page, x.close(), 0);
+            Check.due("mark after close of page " + page, x.mark(0, page, page), -3);
+        }
+        Check.due("close()", x.close(), -3);
     }
 }

@@ -6,6 +6,9 @@ public final class P06FlushTest {
         takesWhatIsToldForThosePages();
         stopsAtTheLastPage();
         takenBackOnesDoNotCount();
+        heldInPartIsHeld();
+        endsOnTheFortiethPageWithNothingHeld();
+        fromAllClosedPages();
         Check.end();
     }
 
@@ -72,5 +75,38 @@ public final class P06FlushTest {
         Check.due("cancel(1)", x.cancel(1), 1);
         Check.due("flush()", x.flush(), 0);
         Check.due("count(3)", x.count(3), 1);
+    }
+
+    private static void heldInPartIsHeld() {
+        InsertMarks x = new InsertMarks(10);
+        x.cls(-1, 1, true);
+        x.insert(0, 11, 0);
+        x.close();
+        Check.due("flush()", x.flush(), 1);
+        Check.due("used(1, 0)", x.used(1, 0), 1);
+    }
+
+    private static void endsOnTheFortiethPageWithNothingHeld() {
+        InsertMarks x = new InsertMarks(1);
+        x.cls(-1, 1, false);
+        x.insert(0, 40, 0);
+        x.close();
+        Check.due("flush()", x.flush(), 39);
+        Check.heldAre("all is placed", x);
+        Check.due("flush() again", x.flush(), 0);
+        Check.due("count(3)", x.count(3), 40);
+    }
+
+    private static void fromAllClosedPages() {
+        InsertMarks x = new InsertMarks(10);
+        x.cls(-1, 0, true);
+        x.insert(0, 6, 39);
+        x.insert(0, 6, 39);
+        for (int page = 0; page < 40; page++) {
+            x.close();
+        }
+        Check.heldAre("on the last page", x, 1);
+        Check.due("no page is left", x.flush(), 0);
+        Check.countsAre("after that", x, 1, 2, 0, 40, 1);
     }
 }

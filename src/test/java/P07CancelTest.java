@@ -6,6 +6,9 @@ public final class P07CancelTest {
         whileItIsHeld();
         itNoLongerHoldsItsClass();
         notInPart();
+        itsNumberStays();
+        afterAllPagesAreClosed();
+        theFirstAndTheLastOfTwoHundred();
         Check.end();
     }
 
@@ -79,5 +82,51 @@ public final class P07CancelTest {
         Check.due("cancel(0)", x.cancel(0), -3);
         Check.heldAre("still held", x, 0);
         Check.aboutIs(x, 0, 5, 0, 0, 1, 1);
+    }
+
+    /** "its number stays": it is not given again, and the others keep theirs. */
+    private static void itsNumberStays() {
+        InsertMarks x = new InsertMarks(100);
+        x.cls(-1, 0, true);
+        x.insert(0, 5, 0);
+        Check.due("cancel(0)", x.cancel(0), 1);
+        Check.due("the next one", x.insert(0, 6, 0), 1);
+        Check.due("about(0, 0)", x.about(0, 0), 0);
+        Check.due("about(1, 0)", x.about(1, 0), 6);
+        Check.due("close()", x.close(), 1);
+        Check.partIs(x, 0, 0, 1, 6, 1, 0);
+        Check.aboutIs(x, 0, 0, -1, -1, -1, 0);
+    }
+
+    private static void afterAllPagesAreClosed() {
+        InsertMarks x = new InsertMarks(10);
+        x.cls(-1, 0, true);
+        x.insert(0, 6, 39);
+        x.insert(0, 6, 39);
+        x.insert(0, 6, 39);
+        for (int page = 0; page < 40; page++) {
+            x.close();
+        }
+        Check.due("cancel(0), placed on the last page", x.cancel(0), -3);
+        Check.due("cancel(1), held for good", x.cancel(1), 1);
+        Check.heldAre("1 is taken back", x, 2);
+        Check.due("cancel(1) again", x.cancel(1), -3);
+        Check.due("cancel(2)", x.cancel(2), 1);
+        Check.heldAre("none is held", x);
+    }
+
+    private static void theFirstAndTheLastOfTwoHundred() {
+        InsertMarks x = new InsertMarks(1000);
+        x.cls(-1, 0, true);
+        for (int i = 0; i < 200; i++) {
+            x.insert(0, 1, 0);
+        }
+        Check.due("cancel(0)", x.cancel(0), 1);
+        Check.due("cancel(199)", x.cancel(199), 1);
+        Check.due("cancel(200)", x.cancel(200), -1);
+        Check.due("close()", x.close(), 198);
+        Check.partIs(x, 0, 0, 1, 1, 1, 0);
+        Check.partIs(x, 0, 197, 198, 1, 198, 0);
+        Check.noPart(x, 0, 198);
     }
 }

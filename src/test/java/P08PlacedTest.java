@@ -7,6 +7,9 @@ public final class P08PlacedTest {
         inTheOrderOfPlacing();
         noneSuch();
         earlierPagesStay();
+        pagesWithoutParts();
+        twoHundredPartsOnOnePage();
+        oneTakenBackIsNoPart();
         Check.end();
     }
 
@@ -57,5 +60,40 @@ public final class P08PlacedTest {
         Check.partIs(x, 0, 0, 0, 30, 1, 0);
         Check.partIs(x, 1, 0, 0, 30, 1, 0);
         Check.partIs(x, 2, 0, 0, 35, 1, 1);
+    }
+
+    private static void pagesWithoutParts() {
+        InsertMarks x = new InsertMarks(10);
+        x.cls(-1, 0, true);
+        x.insert(0, 5, 1);
+        Check.noPart(x, 1, 0);
+        x.close();
+        Check.noPart(x, 0, 0);
+        Check.noPart(x, 1, 0);
+        x.close();
+        Check.partIs(x, 1, 0, 0, 5, 1, 0);
+    }
+
+    private static void twoHundredPartsOnOnePage() {
+        InsertMarks x = new InsertMarks(200);
+        x.cls(-1, 0, true);
+        for (int i = 0; i < 200; i++) {
+            x.insert(0, 1, 0);
+        }
+        Check.due("close()", x.close(), 200);
+        Check.partIs(x, 0, 0, 0, 1, 1, 0);
+        Check.partIs(x, 0, 199, 199, 1, 200, 0);
+        Check.noPart(x, 0, 200);
+    }
+
+    private static void oneTakenBackIsNoPart() {
+        InsertMarks x = new InsertMarks(10);
+        x.cls(-1, 0, true);
+        x.insert(0, 1, 0);
+        x.insert(0, 2, 0);
+        x.cancel(0);
+        x.close();
+        Check.partIs(x, 0, 0, 1, 2, 1, 0);
+        Check.noPart(x, 0, 1);
     }
 }

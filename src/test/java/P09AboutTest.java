@@ -7,6 +7,8 @@ public final class P09AboutTest {
         onItsWay();
         refusals();
         takenBack();
+        onTheFirstAndTheLastPage();
+        heldAndTakenBack();
         Check.end();
     }
 
@@ -54,5 +56,31 @@ public final class P09AboutTest {
         x.close();
         Check.aboutIs(x, 0, 0, -1, -1, -1, 0);
         Check.due("about(0, 5)", x.about(0, 5), -2);
+    }
+
+    private static void onTheFirstAndTheLastPage() {
+        InsertMarks x = new InsertMarks(1);
+        x.cls(-1, 1, true);
+        x.insert(0, 10000, 0);
+        x.insert(0, 1, 39);
+        x.close();
+        Check.aboutIs(x, 0, 9999, 0, 0, 1, 1);
+        x.flush();
+        Check.aboutIs(x, 0, 9960, 0, 39, 1, 40);
+        Check.aboutIs(x, 1, 1, -1, -1, -1, 0);
+    }
+
+    /** "0 when it was taken back", though nothing of it was placed. */
+    private static void heldAndTakenBack() {
+        InsertMarks x = new InsertMarks(10);
+        x.cls(-1, 0, true);
+        x.insert(0, 8, 0);
+        x.insert(0, 8, 0);
+        x.close();
+        Check.aboutIs(x, 1, 8, -1, -1, -1, 0);
+        x.cancel(1);
+        Check.aboutIs(x, 1, 0, -1, -1, -1, 0);
+        x.close();
+        Check.aboutIs(x, 1, 0, -1, -1, -1, 0);
     }
 }

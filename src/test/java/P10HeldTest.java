@@ -5,6 +5,8 @@ public final class P10HeldTest {
         wrongNumbers();
         sinceTheLatestPage();
         theLastOfThemCanBeTakenBack();
+        beforeAnyPageIsClosed();
+        allOfThemAreTakenBack();
         Check.end();
     }
 
@@ -59,5 +61,31 @@ public final class P10HeldTest {
         Check.heldAre("5, not held, is taken back", x, 2, 3);
         Check.due("close()", x.close(), 2);
         Check.heldAre("page 1", x);
+    }
+
+    private static void beforeAnyPageIsClosed() {
+        InsertMarks x = new InsertMarks(10);
+        Check.heldAre("new", x);
+        x.cls(-1, 0, true);
+        x.insert(0, 11, 0);
+        x.insert(0, 11, 0);
+        Check.heldAre("no page is closed", x);
+    }
+
+    /** "(those taken back since are not counted)": the others move up, to the last of them. */
+    private static void allOfThemAreTakenBack() {
+        InsertMarks x = new InsertMarks(10);
+        x.cls(-1, 0, true);
+        for (int i = 0; i < 4; i++) {
+            x.insert(0, 10, 0);
+        }
+        x.close();
+        Check.heldAre("page 0", x, 1, 2, 3);
+        x.cancel(1);
+        Check.heldAre("the first", x, 2, 3);
+        x.cancel(3);
+        Check.heldAre("the last", x, 2);
+        x.cancel(2);
+        Check.heldAre("the only one", x);
     }
 }

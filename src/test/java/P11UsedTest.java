@@ -7,6 +7,9 @@ public final class P11UsedTest {
         sums();
         refusals();
         aClassThatCameLater();
+        moreThanTheRoom();
+        withoutClasses();
+        theLastClassAndPage();
         Check.end();
     }
 
@@ -57,5 +60,43 @@ public final class P11UsedTest {
         InsertMarks x = twoPages();
         x.cls(-1, 0, true);
         Check.due("used(0, 2)", x.used(0, 2), 0);
+    }
+
+    /** What is OVER stands there too. */
+    private static void moreThanTheRoom() {
+        InsertMarks x = new InsertMarks(1);
+        x.cls(0, 0, true);
+        x.insert(0, 10000, 0);
+        x.close();
+        Check.due("used(0, 0)", x.used(0, 0), 10000);
+        Check.due("used(0, -1)", x.used(0, -1), 10000);
+    }
+
+    private static void withoutClasses() {
+        InsertMarks x = new InsertMarks(1);
+        Check.due("used(0, -1)", x.used(0, -1), 0);
+        Check.due("used(0, 0)", x.used(0, 0), -1);
+        x.close();
+        Check.due("used(0, -1), closed", x.used(0, -1), 0);
+        Check.due("used(0, 0), closed", x.used(0, 0), -1);
+        Check.due("used(-1, -1)", x.used(-1, -1), -1);
+        Check.due("used(40, -1)", x.used(40, -1), -1);
+    }
+
+    private static void theLastClassAndPage() {
+        InsertMarks x = new InsertMarks(30);
+        for (int cls = 0; cls < 8; cls++) {
+            x.cls(-1, 0, true);
+        }
+        x.insert(7, 9, 39);
+        x.insert(6, 8, 39);
+        for (int page = 0; page < 40; page++) {
+            x.close();
+        }
+        Check.due("used(39, 7)", x.used(39, 7), 9);
+        Check.due("used(39, 6)", x.used(39, 6), 8);
+        Check.due("used(39, -1)", x.used(39, -1), 17);
+        Check.due("used(38, -1)", x.used(38, -1), 0);
+        Check.due("used(39, 8)", x.used(39, 8), -1);
     }
 }

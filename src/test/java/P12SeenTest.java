@@ -9,6 +9,7 @@ public final class P12SeenTest {
         classesApart();
         closedOrNot();
         noneSuch();
+        theLastClassAndPage();
         Check.end();
     }
 
@@ -97,5 +98,19 @@ public final class P12SeenTest {
         for (int which : badWhich) {
             Check.due("seen(0, 1, " + which + ")", x.seen(0, 1, which), 0);
         }
+    }
+
+    private static void theLastClassAndPage() {
+        InsertMarks x = new InsertMarks(10);
+        for (int cls = 0; cls < 8; cls++) {
+            x.cls(-1, 0, true);
+        }
+        x.mark(7, 5, 38);
+        x.mark(7, 6, 39);
+        x.mark(7, 7, 39);
+        seenIs(x, 7, 39, 5, 6, 7);
+        seenIs(x, 6, 39, 0, 0, 0);
+        seenIs(x, 8, 39, 0, 0, 0);
+        seenIs(x, 7, 40, 0, 0, 0);
     }
 }

@@ -3,6 +3,8 @@ public final class P13CountTest {
     public static void main(String[] args) {
         eachOfThem();
         others();
+        allAtTheirMost();
+        othersBesideFullOnes();
         Check.end();
     }
 
@@ -35,5 +37,36 @@ public final class P13CountTest {
         for (int what : bad) {
             Check.due("count(" + what + ")", x.count(what), -2);
         }
+    }
+
+    private static void allAtTheirMost() {
+        InsertMarks x = new InsertMarks(1);
+        for (int cls = 0; cls < 8; cls++) {
+            x.cls(-1, 0, true);
+        }
+        for (int i = 0; i < 200; i++) {
+            x.insert(i % 8, 1, 39);
+        }
+        for (int page = 0; page < 40; page++) {
+            x.close();
+        }
+        Check.countsAre("full", x, 8, 200, 0, 40, 199);
+        InsertMarks y = new InsertMarks(1);
+        y.cls(-1, 0, true);
+        for (int i = 0; i < 300; i++) {
+            y.mark(0, i, 39);
+        }
+        Check.countsAre("full of marks", y, 1, 0, 300, 0, 0);
+    }
+
+    private static void othersBesideFullOnes() {
+        InsertMarks x = new InsertMarks(1);
+        x.cls(-1, 0, true);
+        x.insert(0, 1, 0);
+        x.insert(0, 1, 0);
+        x.mark(0, 1, 0);
+        x.close();
+        Check.due("count(-1)", x.count(-1), -2);
+        Check.due("count(5)", x.count(5), -2);
     }
 }
